@@ -259,18 +259,23 @@ public final class PageBanks {
     }
 
     public int astray() {
-        int strays = store.strayPlaces();
+        int strays = 0;
         for (int bank = 0; bank < MOST_BANKS; bank++) {
             if (tree.isBank(bank) && tree.isStray(bank, store.ownedBy(bank))) {
                 strays++;
             }
         }
+        store.countListings();
         for (int place = 0; place < PLACES; place++) {
-            if (store.isTaken(place) && !tree.isBank(store.ownerOf(place))) {
+            if (store.isListedWrongly(place) || isWithoutBank(place)) {
                 strays++;
             }
         }
         return strays;
+    }
+
+    private boolean isWithoutBank(int place) {
+        return store.isTaken(place) && !tree.isBank(store.ownerOf(place));
     }
 
     private int buyNeighbours(int bank, int n) {
@@ -714,19 +719,16 @@ public final class PageBanks {
             return NONE;
         }
 
-        /** A place goes together with the order if it is listed once with a page, and else never. */
-        int strayPlaces() {
+        void countListings() {
             Arrays.fill(spare, 0);
             for (int i = 0; i < listed; i++) {
                 spare[order[i]]++;
             }
-            int strays = 0;
-            for (int place = 0; place < PLACES; place++) {
-                if (spare[place] != (isTaken(place) ? 1 : 0)) {
-                    strays++;
-                }
-            }
-            return strays;
+        }
+
+        /** Looks at what countListings() has counted: a page is listed once, no other place is. */
+        boolean isListedWrongly(int place) {
+            return spare[place] != (isTaken(place) ? 1 : 0);
         }
     }
 }

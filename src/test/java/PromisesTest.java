@@ -96,6 +96,13 @@ public final class PromisesTest {
         x.buy(4);
         x.destroy(4);
         check.equal("a dying bank has its number still", x.bank(0, 1), 5);
+        PageBanks y = new PageBanks();
+        y.bank(0, 9);
+        y.reserve(1, 3);
+        y.buyRun(1, 5);
+        y.handUp(1);
+        y.bank(0, 4);
+        tellsAll(y, 1, 0, 0, 0, 4, 0, 1, 0, 1);
     }
 
     private static void bankRefusesWrongInput() {
@@ -212,12 +219,25 @@ public final class PromisesTest {
         check.throwing("by the first one upward", Check.UNSUPPORTED, () -> x.buy(3));
         check.equal("refused", x.refused(), 2);
         check.equal("pages", x.count(2), 2);
+        reachesRootFromDepthSix();
         x.reserve(0, 190);
         x.limit(1, 9);
         x.limit(2, 9);
         check.throwing("by the root", Check.UNSUPPORTED, () -> x.buy(3));
         check.equal("refused", x.refused(), 0);
         tellsAll(x, 3, 1, 1, 0);
+    }
+
+    private static void reachesRootFromDepthSix() {
+        PageBanks x = new PageBanks();
+        for (int parent = 0; parent < 6; parent++) {
+            x.bank(parent, 192);
+        }
+        x.buy(6);
+        check.equal("use of the root", x.told(0, 0), 1);
+        x.reserve(0, 191);
+        check.throwing("by the root, far above", Check.UNSUPPORTED, () -> x.buy(6));
+        check.equal("refused", x.refused(), 0);
     }
 
     private static void buyFindsNoPlace() {
@@ -1036,5 +1056,7 @@ public final class PromisesTest {
         check.equal("while banks are dying", x.astray(), 0);
         x.work(9);
         check.equal("when they are gone", x.astray(), 0);
+        x.limit(1, x.told(1, 0));
+        check.equal("at a limit", x.astray(), 0);
     }
 }
